@@ -507,7 +507,8 @@ public final class RodChimes {
         }
 
         private boolean clash(int a, int b) {
-            switch (Math.abs(tone[a] - tone[b]) % 12) {
+            int apart = tone[a] < tone[b] ? tone[b] - tone[a] : tone[a] - tone[b];
+            switch (apart % 12) {
                 case 1: case 2: case 6: case 10: case 11: return true;
                 default: return false;
             }
@@ -719,22 +720,13 @@ public final class RodChimes {
         private int harsh() {
             int twos = 0;
             for (int a = 0; a < rack.rods; a++) {
-                if (rings[a] > 0) {
-                    twos += clashesBehind(a);
+                for (int b = a + 1; b < rack.rods && rings[a] > 0; b++) {
+                    if (rings[b] > 0 && rack.clash(a, b)) {
+                        twos++;
+                    }
                 }
             }
             return twos;
-        }
-
-        /** Looks at higher RODS alone, so that no two are counted twice. */
-        private int clashesBehind(int a) {
-            int clashes = 0;
-            for (int b = a + 1; b < rack.rods; b++) {
-                if (rings[b] > 0 && rack.clash(a, b)) {
-                    clashes++;
-                }
-            }
-            return clashes;
         }
 
         private boolean isStill() {

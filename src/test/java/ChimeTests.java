@@ -258,6 +258,7 @@ public final class ChimeTests {
         harshTones();
         harshToTheLastBeat();
         farKeepsFromStill();
+        eightRods();
     }
 
     /** Rods 0 and 1 ring together, at every distance of tones. */
@@ -266,10 +267,14 @@ public final class ChimeTests {
             int left = apart % 12;
             int harsh = left == 1 || left == 2 || left == 6 || left == 10 || left == 11 ? 1 : 0;
             for (int first = 0; first <= 1; first++) {
-                RodChimes x = Check.chime("r" + apart * first + " 1 9;r" + apart * (1 - first) + " 1 9;r0 9 1;");
-                x.blows(0, 1);
-                x.blows(1, 1);
-                Check.due("harsh at " + apart + " apart", harsh, x.now(4));
+                for (int low = 0; low + apart <= 48; low += 7) {
+                    int tone = low + apart * first;
+                    int other = low + apart * (1 - first);
+                    RodChimes x = Check.chime("r" + tone + " 1 9;r" + other + " 1 9;r0 9 1;");
+                    x.blows(0, 1);
+                    x.blows(1, 1);
+                    Check.due("harsh: " + tone + " and " + other, harsh, x.now(4));
+                }
             }
         }
     }
@@ -289,6 +294,16 @@ public final class ChimeTests {
         x.blows(2, 7);
         Check.due("nothing rings", 0, x.now(3));
         Check.due("still once far is 0", 4, x.now(5));
+    }
+
+    private static void eightRods() {
+        RodChimes x = Check.chime("r0 1 9;".repeat(7) + "r1 1 9;");
+        for (int side = 0; side < 8; side++) {
+            Check.due("struck", side, x.blows(side, 1));
+            Check.due("ringing", (2 << side) - 1, x.now(3));
+        }
+        Check.due("the last one with each of the others", 7, x.now(4));
+        Check.due("till the last one is still", 9, x.now(5));
     }
 
     private static void counts() {

@@ -101,6 +101,9 @@ public final class GustTests {
         Check.due("asked twice", 2, y.listen(2));
         Check.due("nothing tells by the gust's beat", 0, y.listen(0));
         listensToAllGusts();
+        RodChimes eight = Check.chime("r0 9 1;".repeat(7) + "r0 1 1;");
+        fit("eight rods", eight, 72, 1);
+        Check.due("the last of eight rods", 7, () -> eight.listen(0));
     }
 
     /** The weakest and the strongest gusts are among those that are told apart, and no others. */

@@ -50,6 +50,10 @@ final class Check {
         return wrong == 0;
     }
 
+    static int wrong() {
+        return wrong;
+    }
+
     static void end(String name) {
         System.out.println(name + ": " + asked + " answers, " + wrong + " wrong");
         if (wrong != 0) {

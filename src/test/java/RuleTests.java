@@ -8,10 +8,8 @@ import java.nio.file.Path;
 import java.util.ArrayList;
 import java.util.List;
 import java.util.TreeSet;
-import java.util.regex.Matcher;
-import java.util.regex.Pattern;
 
-/** The public face, and those rules of LANGUAGE.md that can be seen without understanding the program. */
+/** The public face as the document has it, and nothing beside it; LanguageTests has the other rules. */
 public final class RuleTests {
     private static final List<String> FACE = List.of("int type(int)", "int clear()", "int chime()", "int rod(int,int)",
         "int side(int)", "int now(int)", "int blows(int,int)", "int calms()", "int changes(int,int)", "int holds(int)",
@@ -22,13 +20,7 @@ public final class RuleTests {
     public static void main(String[] args) throws Exception {
         face();
         constants();
-        membersOf(RodChimes.class);
-        for (Class<?> inside : RodChimes.class.getDeclaredClasses()) {
-            Check.holds(inside + " is static", Modifier.isStatic(inside.getModifiers()));
-            Check.holds(inside + " is not public", !Modifier.isPublic(inside.getModifiers()));
-            membersOf(inside);
-        }
-        source();
+        signs();
         Check.end("RuleTests");
     }
 
@@ -74,30 +66,8 @@ public final class RuleTests {
             found.equals(new TreeSet<>(List.of("BAD", "STATE", "FULL", "NONE", "NO"))));
     }
 
-    private static void membersOf(Class<?> type) {
-        int fields = 0;
-        for (Field f : type.getDeclaredFields()) {
-            boolean isStatic = Modifier.isStatic(f.getModifiers());
-            fields += isStatic ? 0 : 1;
-            Check.holds(f + " is final if it is static", !isStatic || Modifier.isFinal(f.getModifiers()));
-        }
-        Check.holds(type + " has some twenty fields at most: " + fields, fields <= 20);
-        for (Method m : type.getDeclaredMethods()) {
-            Check.holds(m + " has seven parameters at most", m.getParameterCount() <= 7);
-        }
-    }
-
-    private static void source() throws Exception {
-        String text = Files.readString(Path.of("src/main/java/RodChimes.java"), StandardCharsets.US_ASCII);
-        String code = text.replaceAll("(?s)/\\*.*?\\*/", " ").replaceAll("//[^\n]*", " ");
-        Matcher ruledOut = Pattern.compile("\\b(throw|throws|try|catch|finally|synchronized|assert|import|package|protected|"
-            + "instanceof|equals|hashCode|toString|\\w+Exact|Random|Thread)\\b|->|::").matcher(code);
-        while (ruledOut.find()) {
-            Check.holds("'" + ruledOut.group() + "' is not in the program", false);
-        }
-        // the constructor makes all rows: no call may make an object
-        String calls = code.substring(code.indexOf("public int type("), code.indexOf("private static final class Rack"));
-        Check.holds("no call makes an object", !Pattern.compile("\\bnew\\b").matcher(calls).find());
-        Check.holds("no other language signs than ASCII", StandardCharsets.US_ASCII.newEncoder().canEncode(text));
+    private static void signs() throws Exception {
+        String text = Files.readString(Path.of("src/main/java/RodChimes.java"), StandardCharsets.UTF_8);
+        Check.holds("no other signs than ASCII", StandardCharsets.US_ASCII.newEncoder().canEncode(text));
     }
 }
